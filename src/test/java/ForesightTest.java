@@ -7,6 +7,7 @@ public final class ForesightTest {
         foresee();
         missed();
         missedOfTests();
+        missedWhenAllCome();
         advise();
         adviseBeyondFour();
         wrongInputs();
@@ -39,6 +40,7 @@ public final class ForesightTest {
         Check.due("until(n)", -1, x.until(1));
         x.go(1);
         Check.due("until(m) behind 1", 359, x.until(0));
+        Check.due("until(n) behind 1", -1, x.until(1));
         x.go(1);
         Check.due("until(n) behind 2", 360, x.until(1));
     }
@@ -129,6 +131,23 @@ public final class ForesightTest {
         Heliographs alone = Check.taught("peak a sun from 0 to 120 mirrors 4;peak b sun from 0 to 120 mirrors 1;"
                 + "message m words 1 at a to b due 0;");
         Check.due("missed without passes", -1, alone.missed(5));
+        // What was tried is not kept for what is asked next.
+        Heliographs next = Check.taught(AB + "message m words 1 at a to b due 0;");
+        Check.due("missed(9)", 0, next.missed(9));
+        Check.due("until behind missed", 2, next.until(0));
+        Check.due("missed(9) again", 0, next.missed(9));
+        Check.due("foresee behind missed", 1, next.foresee(2, 10));
+        Check.due("advise(1)", -1, next.advise(1));
+    }
+
+    private static void missedWhenAllCome() {
+        StringBuilder list = new StringBuilder(AB + "pass q between a and b far 1;");
+        for (int i = 0; i < 8; i++) {
+            list.append("message m" + i + " words 1 at a to b due 0;");
+        }
+        Heliographs x = Check.taught(list.toString());
+        Check.due("all eight come", 8, x.foresee(100, 10));
+        Check.due("missed(100)", 0, x.missed(100));
     }
 
     private static void missedOfTests() {

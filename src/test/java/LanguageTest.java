@@ -69,12 +69,39 @@ public final class LanguageTest {
             Check.due("count(" + what + ") behind nothing", 0, x.count(what));
         }
         Check.due("minute stays still", 3, x.count(0));
+        Check.due("clouds and holds of the last list alone", 0, Check.teach(x, FULL + "hold m when 2<1;"));
+        Check.due("teach", 0, Check.teach(x, FULL + "cloud over p every 9 for 1 from 0;"));
+        Check.due("teach", 0, Check.teach(x, FULL + "hold m when 2<1;"));
+        Check.due("clouds", 0, x.count(3));
+        Check.due("holds", 1, x.count(5));
+        Check.due("teach", 0, Check.teach(x, FULL));
+        Check.due("clouds", 0, x.count(3));
+        Check.due("holds", 0, x.count(5));
+        x.go(10);
+        Check.due("passes of m", 1, x.message(0, 8));
+        Check.due("teach", 0, Check.teach(x, FULL));
+        Check.due("passes of m anew", 0, x.message(0, 8));
+        Check.due("minute in which m came anew", -1, x.message(0, 7));
+        holdsOfManyLists(x);
         // What was lost is begun anew as well: far 7, at minute 1 with 4 words left.
         Heliographs y = Check.taught(TWO + "pass p between a and b far 7;message m words 4 at a to b due 0;");
         y.go(2);
         Check.due("lost", 1, y.count(12));
         y.teach();
         Check.due("lost anew", 0, y.count(12));
+    }
+
+    /** Large tests, one after the other, on one object: none stands in the way of the next. */
+    private static void holdsOfManyLists(Heliographs x) {
+        StringBuilder ones = new StringBuilder("0");
+        for (int i = 0; i < 150; i++) {
+            ones.append("+1");
+        }
+        for (int i = 140; i < 160; i++) {
+            Check.due("teach", 0, Check.teach(x, FULL + "hold m when " + ones + "=" + i + ";"));
+            x.go(1);
+            Check.due("held with " + i, i == 150 ? 0 : 1, x.message(0, 3));
+        }
     }
 
     private static void errorsLeaveAll() {
@@ -124,6 +151,14 @@ public final class LanguageTest {
         Check.errorAtMark(1, "peak #sun sun from 0 to 0 mirrors 0;");
         Check.errorAtMark(1, "peak a sun #to 0 from 0 mirrors 0;");
         Check.errorAtMark(1, "peak a sun from #-1 to 0 mirrors 0;");
+        Check.errorAtMark(1, "peak a sun from #to 0 mirrors 0;");
+        Check.errorAtMark(1, "peak a sun from 0 to 0 mirrors #;");
+        Check.errorAtMark(1, "peak #sun from 0 to 0 mirrors 0;");
+        Check.errorAtMark(1, TWO + "pass p between #and b far 1;");
+        Check.errorAtMark(1, TWO + "pass p between a and #far 1;");
+        Check.errorAtMark(1, FULL + "hold #when 1 < 2;");
+        Check.errorAtMark(1, FULL + "hold m when open #;");
+        Check.errorAtMark(1, FULL + "hold m when queue #< 2;");
         Check.errorAtMark(1, "peak a sun from 0 to 0 mirrors 0 #peak b sun from 0 to 0 mirrors 0;");
         Check.errorAtMark(1, TWO + "pass p between a #b far 1;");
         Check.errorAtMark(1, TWO + "pass p between a and b far 1#,");
@@ -170,6 +205,9 @@ public final class LanguageTest {
         Check.taught(FULL + "hold m when not [not [not -(min(1, 2)) < 2] ];");
         Check.errorAtMark(1, FULL + "hold m when not [not [-(min(2, -max#(1, 2))) < 2] ];");
         Check.errorAtMark(1, FULL + "hold m when not [not [not -(min(2, #-1)) < 2] ];");
+        Check.taught(FULL + "hold m when min((((((((1))))))), (((((((2)))))))) < 2;");
+        Check.errorAtMark(1, FULL + "hold m when min((((((((#(1)))))))), 2) < 2;");
+        Check.errorAtMark(1, FULL + "hold m when max(1, (((((((#(2))))))))) < 2;");
         // A minus between two values is not one in front of a value.
         Check.taught(FULL + "hold m when 1-2-3-4-5-6-7-8-9-10-11 < 2-1;");
         Check.taught(FULL + "hold m when not not not not not not not not 1 < 2 and not 3 - 1 < 2;");
@@ -183,6 +221,9 @@ public final class LanguageTest {
         String text = sum.toString();
         Check.due("tokens", 396, tokensOf(text));
         Check.taught(text + "<2 ;  \n");
+        // Just 400 tokens, the end not counted.
+        Check.taught(text + "<-2 ;  \n");
+        Check.error(text + "<--2;", 1, text.length() + 4);
         Check.error(text + "<22+", 1, text.length() + 4);
         Check.error(text + "<2+", 1, text.length() + 3);
         Check.error(text + "<2+2;", 1, text.length() + 4);

@@ -318,6 +318,12 @@ public final class MinuteTest {
         holds(true, "2 >= 2");
         holds(false, "1 >= 2");
         holds(true, "3 >= 2");
+        holds(false, "2 < 1 and 1 < 2");
+        holds(false, "1 < 2 and 2 < 1");
+        holds(true, "1 < 2 and 1 < 2");
+        holds(true, "2 < 1 or 1 < 2");
+        holds(true, "1 < 2 or 2 < 1");
+        holds(false, "2 < 1 or 2 < 1");
         holds(false, "not 1 < 2");
         holds(true, "not not 1 < 2");
         holds(true, "1 < 2 or 1 < 2 and 2 < 1");

@@ -96,12 +96,13 @@ public final class SkyTest {
         Heliographs x = Check.taught("peak a sun from 0 to 120 mirrors 1;peak b sun from 0 to 10 mirrors 1;"
                 + "peak c sun from 0 to 120 mirrors 1;pass ab between a and b far 1;pass bc between b and c far 1;"
                 + "pass ac between a and c far 9;cloud over ac every 20 for 5 from 0;cloud over ab every 60 for 2 from 56;");
+        Check.due("first(a, c) ahead of any way()", 0, x.first(0, 2));
         int[] far = new int[120];
         for (int minute = 0; minute < 120; minute++) {
             boolean isShort = minute < 10 && !((minute + 56) % 60 < 2);
             far[minute] = isShort ? 2 : minute % 20 < 5 ? -1 : 9;
-            Check.due("way(a, c) in " + minute, far[minute], x.way(0, 2));
             Check.due("first(a, c) in " + minute, far[minute] == 2 ? 0 : far[minute] == 9 ? 2 : -1, x.first(0, 2));
+            Check.due("way(a, c) in " + minute, far[minute], x.way(0, 2));
             Check.due("way(b, b) in " + minute, 0, x.way(1, 1));
             x.go(1);
         }
