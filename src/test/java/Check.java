@@ -1,3 +1,6 @@
+import java.util.function.Consumer;
+import java.util.function.Supplier;
+
 /** What the tests share: counting wrong answers, and feeding texts. */
 final class Check {
     static final int NOTHING = 0;
@@ -6,8 +9,16 @@ final class Check {
     static final int INDEX = 3;
 
     private static int wrong = 0;
+    private static String sentence = "";
 
     private Check() {
+    }
+
+    /** A sentence of the document, and the test of what it says. */
+    static void sentence(String words, Runnable test) {
+        sentence = "\"" + words + "\": ";
+        test.run();
+        sentence = "";
     }
 
     /** A call whose exception is looked at. */
@@ -17,8 +28,7 @@ final class Check {
 
     static void due(String what, long want, long got) {
         if (want != got) {
-            wrong++;
-            System.out.println(what + " answered " + got + ", due is " + want);
+            wrong(what, "" + want, "" + got);
         }
     }
 
@@ -28,9 +38,13 @@ final class Check {
 
     static void due(String what, double want, double got) {
         if (want != got) {
-            wrong++;
-            System.out.println(what + " answered " + got + ", due is " + want);
+            wrong(what, "" + want, "" + got);
         }
+    }
+
+    private static void wrong(String what, String want, String got) {
+        wrong++;
+        System.out.println(sentence + what + " answered " + got + ", due is " + want);
     }
 
     /** The call throws exactly this, and nothing of the object is changed by it. */
@@ -40,6 +54,13 @@ final class Check {
         due(what + " throws", want, thrownBy(call));
         due("digest() behind " + what, before, x.digest());
         due("errorAt() behind " + what, fault, x.errorAt());
+    }
+
+    /** The call throws exactly this, and the object answers as a twin of it, made alike, on which it was not called. */
+    static void refused(String what, int want, Supplier<Heliographs> made, Consumer<Heliographs> call) {
+        Heliographs x = made.get();
+        due(what + " throws", want, thrownBy(() -> call.accept(x)));
+        Twins.alike("behind " + what, made.get(), x);
     }
 
     static int thrownBy(Call call) {
@@ -97,8 +118,10 @@ final class Check {
     static void error(String text, int error, int position) {
         Heliographs x = new Heliographs();
         teach(x, "peak old sun from 0 to 120 mirrors 1;");
+        long before = x.digest();
         due("teach() of " + text, error, teach(x, text));
         due("errorAt() of " + text, position, x.errorAt());
+        due("digest() behind " + text, before, x.digest());
         due("peaks behind " + text, 1, x.count(1));
         due("tape behind " + text, 0, x.count(13));
     }
@@ -107,6 +130,14 @@ final class Check {
     static void errorAtMark(int error, String text) {
         int mark = text.indexOf('#');
         error(text.substring(0, mark) + text.substring(mark + 1), error, mark);
+    }
+
+    /** Whether a message is held by the test, in this minute, 999 at most. */
+    static boolean isHeld(String test, int minute) {
+        Heliographs x = taught("peak a sun from 0 to 120 mirrors 1;peak b sun from 0 to 120 mirrors 1;"
+                + "pass p between a and b far 1;message m words 7 at a to b due " + minute + ";hold m when " + test + ";");
+        go(x, minute + 1);
+        return x.message(0, 3) == 0;
     }
 
     /** The minutes between, as go() takes only 240 at once. */

@@ -82,29 +82,29 @@ public final class ForesightTest {
     }
 
     private static void foresee() {
-        Heliographs x = Check.taught("peak a sun from 0 to 9 mirrors 2;peak b sun from 0 to 120 mirrors 2;"
+        String list = "peak a sun from 0 to 9 mirrors 2;peak b sun from 0 to 120 mirrors 2;"
                 + "pass p between a and b far 7;pass q between b and a far 8;message m words 4 at a to b due 0;"
-                + "message n words 40 at a to b due 0;message o words 3 at b to a due 999;");
-        Heliographs y = Check.taught("peak a sun from 0 to 9 mirrors 2;peak b sun from 0 to 120 mirrors 2;"
-                + "pass p between a and b far 7;pass q between b and a far 8;message m words 4 at a to b due 0;"
-                + "message n words 40 at a to b due 0;message o words 3 at b to a due 999;");
+                + "message n words 40 at a to b due 0;message o words 3 at b to a due 999;";
         int[][] due = new int[241][13];
-        for (int minutes = 1; minutes <= 240; minutes++) {
-            y.go(1);
-            for (int what = 8; what <= 12; what++) {
+        for (int what = 8; what <= 12; what++) {
+            Heliographs y = Check.taught(list);
+            for (int minutes = 1; minutes <= 240; minutes++) {
+                y.go(1);
                 due[minutes][what] = y.count(what);
             }
         }
         Check.due("there behind 6", 1, due[6][10]);
         Check.due("broken behind 10", 1, due[10][11]);
         Check.due("something is lost", true, due[6][12] > 0);
-        long before = x.digest();
         for (int minutes = 1; minutes <= 240; minutes++) {
+            Heliographs y = Check.taught(list);
+            long before = y.digest();
             for (int what = 8; what <= 12; what++) {
-                Check.due("foresee(" + minutes + ", " + what + ")", due[minutes][what], x.foresee(minutes, what));
+                Check.due("foresee(" + minutes + ", " + what + ")", due[minutes][what], y.foresee(minutes, what));
             }
+            Check.due("digest", before, y.digest());
         }
-        Check.due("digest", before, x.digest());
+        Heliographs x = Check.taught(list);
         x.go(7);
         Check.due("foresee(3, 11) behind 7", due[10][11], x.foresee(3, 11));
         Check.due("foresee(3, 12) behind 7", due[10][12], x.foresee(3, 12));

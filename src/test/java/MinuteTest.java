@@ -293,15 +293,8 @@ public final class MinuteTest {
         Check.due("n is held", 0, x.message(1, 3));
     }
 
-    /** Whether a message is held by the test, in the minute of the day. */
-    private static boolean isHeld(String test, int minute) {
-        Heliographs x = Check.taught(AB + "message m words 7 at a to b due " + minute + ";hold m when " + test + ";");
-        Check.go(x, minute + 1);
-        return x.message(0, 3) == 0;
-    }
-
     private static void holds(boolean due, String test) {
-        Check.due("test " + test, due, isHeld(test, 0));
+        Check.due("test " + test, due, Check.isHeld(test, 0));
     }
 
     private static void tests() {
@@ -338,8 +331,8 @@ public final class MinuteTest {
         holds(false, "not open p");
         holds(false, "carried m");
         holds(true, "left m = 7 and breaks m = 0 and queue a = 1 and queue b = 0");
-        Check.due("minute 119", true, isHeld("minute = 119", 119));
-        Check.due("minute 120", true, isHeld("minute = 0", 120));
+        Check.due("minute 119", true, Check.isHeld("minute = 119", 119));
+        Check.due("minute 120", true, Check.isHeld("minute = 0", 120));
     }
 
     private static void sums() {

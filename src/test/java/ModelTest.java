@@ -5,12 +5,15 @@ import java.util.List;
 public final class ModelTest {
     private static final int RUNS = 150;
     private static final int CALLS = 120;
+    // Of an object's 512 calls those that a list and a call may take have to be left.
+    private static final int LAST_CALL = 512 - 104 - 2;
     private static final int LISTS = 6000;
     private static final String[] ODD = {"(", ")", "[", "]", ";", ",", "+", "-", "*", "/", "<", ">", "=", "<=", ">=", "not",
         "and", "or", "min", "max", "queue", "left", "open", "carried", "minute", "peak", "pass", "cloud", "message", "hold",
         "a0", "a1", "b0", "m0", "zz", "0", "1", "7", "61", "999999", "1234567", "abcdefghijk", "\t", "!", "A", "\u00e9", "\0"};
 
     private long seed;
+    private int calls;
 
     private ModelTest(long seed) {
         this.seed = seed * 2654435761L + 12345;
@@ -206,6 +209,7 @@ public final class ModelTest {
             for (int j = 0; j < 20; j++) {
                 fed[j / 4] = fed[j / 4] << 8 | (i + j < bytes.length ? bytes[i + j] & 255 : 32);
             }
+            calls++;
             Check.due(what + "feed", y.feed(fed), x.feed(fed[0], fed[1], fed[2], fed[3], fed[4]));
         }
         Check.due(what + "trim", y.trim(bytes.length), x.trim(bytes.length));
@@ -213,6 +217,7 @@ public final class ModelTest {
 
     private int teach(String what, Heliographs x, Model y) {
         byte[] bytes = text();
+        calls += 3;
         feed(what, x, y, bytes);
         int error = y.teach();
         String shown = what + "teach of " + new String(bytes, java.nio.charset.StandardCharsets.ISO_8859_1) + "\n";
@@ -268,8 +273,12 @@ public final class ModelTest {
             if (teach(what, x, y) == 0) {
                 break;
             }
+            x = new Heliographs();
+            y = new Model();
+            calls = 0;
         }
-        for (int i = 0; i < CALLS; i++) {
+        for (int i = 0; i < CALLS && calls <= LAST_CALL; i++) {
+            calls += 2;
             if (one(40)) {
                 tokens.clear();
                 lines(one(2));

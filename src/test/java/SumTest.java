@@ -47,15 +47,18 @@ public final class SumTest {
     }
 
     private static void digest() {
-        Heliographs x = Check.taught("peak a sun from 0 to 120 mirrors 1;peak b sun from 0 to 9 mirrors 1;"
+        String list = "peak a sun from 0 to 120 mirrors 1;peak b sun from 0 to 9 mirrors 1;"
                 + "peak c sun from 3 to 120 mirrors 2;pass ab between a and b far 7;pass bc between b and c far 1;"
                 + "pass ca between c and a far 20;cloud over ca every 5 for 2 from 1;"
                 + "message m words 6 at a to b due 0;message n words 4 at b to a due 3;"
-                + "message o words 9 at b to c due 0;hold o when minute < 4;");
+                + "message o words 9 at b to c due 0;hold o when minute < 4;";
         for (int minute = 0; minute < 60; minute++) {
-            Check.due("digest() in " + minute, digestOf(x), x.digest());
-            x.go(1);
+            Heliographs then = Check.taught(list);
+            Check.go(then, minute);
+            Check.due("digest() in " + minute, digestOf(then), then.digest());
         }
+        Heliographs x = Check.taught(list);
+        x.go(60);
         x.feed(1, 2, 3, 4, 5);
         Check.due("digest() with a tape", digestOf(x), x.digest());
         Check.due("digest() again", digestOf(x), x.digest());
