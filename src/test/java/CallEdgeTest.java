@@ -27,14 +27,22 @@ public final class CallEdgeTest {
         Check.sentence("Returns 0, or the error, 1 to 5", CallEdgeTest::teachReturns);
         Check.sentence("-1 if it had none, or there was none", CallEdgeTest::errorAtOfNone);
         Check.sentence("IndexOutOfBoundsException if what is not 0 to 13", CallEdgeTest::countRefuses);
+        Check.sentence("1 peaks, 2 passes, 3 clouds, 4 messages, 5 holds, 6 peaks that have sun now, 7 passes that are open now",
+                CallEdgeTest::countEmptyAndFull);
+        Check.sentence("8 messages that wait, 9 messages that are flashed, 10 messages that are there",
+                CallEdgeTest::countMessages);
         Check.sentence("11 how often flashing broke off in all, 12 words that were lost in all, 13 bytes of the tape",
                 CallEdgeTest::countInAll);
     }
 
     private static void whatThereIs() {
         Check.sentence("if there is no such peak, or what is not 0 to 6", CallEdgeTest::peakRefuses);
+        Check.sentence("5 passes that it has, 6 those of them that are open now", CallEdgeTest::passesOfAPeak);
+        Check.sentence("3 mirrors that are free, 4 messages that wait there", CallEdgeTest::mirrorsAndQueueOfAPeak);
         Check.sentence("if there is no such pass, or what is not 0 to 5", CallEdgeTest::passRefuses);
         Check.sentence("if there is no such message, or what is not 0 to 8", CallEdgeTest::messageRefuses);
+        Check.sentence("2 its far, 3 its clouds", CallEdgeTest::cloudsOfAPass);
+        Check.sentence("5 words that were flashed over it in all, those as well that were lost", CallEdgeTest::wordsOverAPass);
         Check.sentence("-1 for none", CallEdgeTest::noneIsFlashed);
         Check.sentence("7 the minute in which it came to where it goes, -1 if it did not", CallEdgeTest::didNotCome);
         Check.sentence("hasSun: IllegalArgumentException if minute is not 0 to 9999", CallEdgeTest::hasSunRefuses);
@@ -214,7 +222,7 @@ public final class CallEdgeTest {
         x.trim(0);
         Check.due("teach()", 0, Check.teach(x, list));
         Heliographs due = new Heliographs();
-        due.go(5);
+        due.go(6);
         Check.due("teach()", 0, Check.teach(due, list));
         Twins.alike("behind a list, with one that had another list", due, x);
         // The empty list takes all away.
@@ -222,7 +230,7 @@ public final class CallEdgeTest {
         y.trim(0);
         Check.due("teach()", 0, y.teach());
         Heliographs empty = new Heliographs();
-        empty.go(5);
+        empty.go(6);
         Twins.alike("behind the empty list", empty, y);
         // The minute stays whatever it is: 0, 240, and when the list ahead was refused.
         Heliographs z = Check.taught(AB);
@@ -305,7 +313,7 @@ public final class CallEdgeTest {
             refused("count(" + what + ")", Check.INDEX, x -> x.count(what));
         }
         Heliographs x = Twins.busy();
-        int[] due = {5, 3, 3, 1, 3, 1, 3, 3, 1, 1, 1, 0, 0, 33};
+        int[] due = {6, 3, 3, 1, 3, 1, 3, 2, 1, 1, 1, 1, 1, 33};
         for (int what = 0; what <= 13; what++) {
             Check.due("count(" + what + ")", due[what], x.count(what));
         }
@@ -313,6 +321,69 @@ public final class CallEdgeTest {
             int asked = what;
             changesNothing("count(" + what + ")", y -> y.count(asked));
         }
+    }
+
+    /** Eight peaks in a ring of passes, four passes more, and a message from each peak to the next one. */
+    private static String ring() {
+        StringBuilder list = new StringBuilder();
+        for (int i = 0; i < 8; i++) {
+            list.append(peak("k" + i, 1));
+        }
+        for (int i = 0; i < 12; i++) {
+            list.append("pass p" + i + " between k" + i % 8 + " and k" + (i + 1) % 8 + " far 1;");
+        }
+        for (int i = 0; i < 8; i++) {
+            list.append("message m" + i + " words 1 at k" + i + " to k" + (i + 1) % 8 + " due 0;");
+        }
+        return list.toString();
+    }
+
+    private static void countEmptyAndFull() {
+        // All clouds lie in 1 and not in 0; all holds hold.
+        Heliographs cloudy = Check.taught(ring() + "cloud over p11 every 2 for 1 from 1;".repeat(8));
+        int[] due = {0, 8, 12, 8, 8, 0, 8, 12};
+        for (int what = 0; what < due.length; what++) {
+            Check.due("count(" + what + ") of a full list", due[what], cloudy.count(what));
+        }
+        cloudy.go(1);
+        Check.due("passes that are open in 1", 11, cloudy.count(7));
+        Heliographs held = Check.taught(ring() + "hold m7 when 1=1;".repeat(12));
+        Check.due("holds of a full list", 12, held.count(5));
+        Check.due("clouds of it", 0, held.count(3));
+        Heliographs night = Check.taught(ring().replace("from 0 to 120", "from 1 to 2"));
+        Check.due("peaks that have sun in 0", 0, night.count(6));
+        Check.due("passes that are open in 0", 0, night.count(7));
+        night.go(1);
+        Check.due("peaks that have sun in 1", 8, night.count(6));
+        Check.due("passes that are open in 1", 12, night.count(7));
+        night.go(1);
+        Check.due("peaks that have sun in 2", 0, night.count(6));
+        Check.due("passes that are open in 2", 0, night.count(7));
+        Heliographs one = Check.taught(peak("a", 1));
+        int[] alone = {0, 1, 0, 0, 0, 0, 1, 0, 0, 0, 0, 0, 0, 0};
+        for (int what = 0; what < alone.length; what++) {
+            Check.due("count(" + what + ") of one peak", alone[what], one.count(what));
+        }
+    }
+
+    private static void countMessages() {
+        Heliographs x = Check.taught(ring());
+        int[][] due = {{8, 0, 0}, {0, 8, 0}, {0, 0, 8}, {0, 0, 8}};
+        for (int minute = 0; minute < due.length; minute++) {
+            for (int i = 0; i < 3; i++) {
+                Check.due("count(" + (8 + i) + ") in " + minute, due[minute][i], x.count(8 + i));
+            }
+            x.go(1);
+        }
+        // Sent on, one waits again; with a mirror less, one does not go.
+        x.forward(7, 1);
+        Check.due("messages that wait", 1, x.count(8));
+        Check.due("messages that are there", 7, x.count(10));
+        Heliographs y = Check.taught(ring());
+        y.mirror(3, false);
+        y.go(1);
+        Check.due("messages that wait", 1, y.count(8));
+        Check.due("messages that are flashed", 7, y.count(9));
     }
 
     private static void countInAll() {
@@ -361,21 +432,96 @@ public final class CallEdgeTest {
         }
         changesNothing("peak(2, 6)", x -> x.peak(2, 6));
         Heliographs x = Twins.busy();
-        int[][] due = {{0, 120, 2, 2, 0, 2, 2}, {0, 60, 1, 0, 0, 2, 2}, {0, 120, 4, 4, 1, 2, 2}};
+        int[][] due = {{0, 120, 2, 2, 0, 2, 2}, {0, 60, 1, 0, 0, 2, 1}, {0, 120, 4, 4, 1, 2, 1}};
         for (int peak = 0; peak < 3; peak++) {
             for (int what = 0; what <= 6; what++) {
                 Check.due("peak(" + peak + ", " + what + ")", due[peak][what], x.peak(peak, what));
             }
         }
-        // In the minute 6 bc is cloudy.
+        // In the minute 6 bc is cloudy, and up to 8.
+        x.go(2);
+        Check.due("passes of b that are open in 8", 1, x.peak(1, 6));
         x.go(1);
-        Check.due("passes of a that are open", 2, x.peak(0, 6));
-        Check.due("passes of b that are open", 1, x.peak(1, 6));
-        Check.due("passes of c that are open", 1, x.peak(2, 6));
+        Check.due("passes of a that are open in 9", 2, x.peak(0, 6));
+        Check.due("passes of b that are open in 9", 2, x.peak(1, 6));
+        Check.due("passes of c that are open in 9", 2, x.peak(2, 6));
         Heliographs y = Check.taught(large());
         Check.due("mirrors of the last peak", 2, y.peak(7, 2));
         Check.refuses(y, "peak(8, 2) of eight", Check.INDEX, () -> y.peak(8, 2));
         Check.due("passes of k0", 3, y.peak(0, 5));
+    }
+
+    private static void passesOfAPeak() {
+        for (int count : new int[] {0, 1, 2, 11, 12}) {
+            StringBuilder list = new StringBuilder(peak("a", 1) + peak("b", 1) + "peak c sun from 1 to 2 mirrors 1;");
+            for (int i = 0; i < count; i++) {
+                list.append("pass p" + i + " between " + (i % 2 == 0 ? "a and b" : "c and a") + " far 1;");
+            }
+            Heliographs x = Check.taught(list.toString());
+            int open = (count + 1) / 2;
+            Check.due("passes of a, of " + count, count, x.peak(0, 5));
+            Check.due("passes of b, of " + count, open, x.peak(1, 5));
+            Check.due("passes of c, of " + count, count - open, x.peak(2, 5));
+            Check.due("passes of a that are open in 0, of " + count, open, x.peak(0, 6));
+            Check.due("passes of b that are open in 0, of " + count, open, x.peak(1, 6));
+            Check.due("passes of c that are open in 0, of " + count, 0, x.peak(2, 6));
+            x.go(1);
+            Check.due("passes of a that are open in 1, of " + count, count, x.peak(0, 6));
+            Check.due("passes of c that are open in 1, of " + count, count - open, x.peak(2, 6));
+        }
+    }
+
+    private static void mirrorsAndQueueOfAPeak() {
+        // Eight messages, five peaks to go to: as many are flashed as there are mirrors, the others wait.
+        StringBuilder list = new StringBuilder();
+        for (int i = 0; i < 5; i++) {
+            list.append(peak("b" + i, 4) + "pass p" + i + " between a and b" + i + " far 1;");
+        }
+        for (int i = 0; i < 8; i++) {
+            list.append("message m" + i + " words 9 at a to b" + i % 5 + " due 0;");
+        }
+        for (int mirrors = 0; mirrors <= 4; mirrors++) {
+            Heliographs x = Check.taught(peak("a", mirrors) + list);
+            Check.due("mirrors that are free at first, of " + mirrors, mirrors, x.peak(0, 3));
+            Check.due("messages that wait at first", 8, x.peak(0, 4));
+            Check.due("messages that wait at b0", 0, x.peak(1, 4));
+            x.go(1);
+            Check.due("mirrors that are free, of " + mirrors, 0, x.peak(0, 3));
+            Check.due("messages that wait, with " + mirrors, 8 - mirrors, x.peak(0, 4));
+            Check.due("mirrors of b0 that are free", 4, x.peak(1, 3));
+            if (mirrors > 0) {
+                x.stop(0);
+                Check.due("mirrors that are free with one stopped, of " + mirrors, 1, x.peak(0, 3));
+                Check.due("messages that wait with one stopped", 9 - mirrors, x.peak(0, 4));
+            }
+            x.go(12);
+            Check.due("messages that wait at b0, as those that are there do not", 0, x.peak(1, 4));
+        }
+    }
+
+    private static void cloudsOfAPass() {
+        for (int count : new int[] {0, 1, 7, 8}) {
+            Heliographs x = Check.taught(AB + "pass q between b and a far 20;" + "cloud over q every 2 for 1 from 1;".repeat(count));
+            Check.due("clouds of p, of " + count, 0, x.pass(0, 3));
+            Check.due("clouds of q, of " + count, count, x.pass(1, 3));
+            Check.due("far of p", 1, x.pass(0, 2));
+            Check.due("far of q", 20, x.pass(1, 2));
+        }
+    }
+
+    private static void wordsOverAPass() {
+        // Of 4 words the first one is lost in 1, so that 5 are flashed; then those of the way back.
+        Heliographs x = Check.taught(peak("a", 1) + peak("b", 1) + "pass p between a and b far 7;message m words 4 at a to b due 0;");
+        int[] due = {0, 0, 1, 2, 3, 4, 5, 5};
+        for (int minute = 0; minute < due.length; minute++) {
+            Check.due("words over p in " + minute, due[minute], x.pass(0, 5));
+            x.go(1);
+        }
+        Check.due("lost", 1, x.count(12));
+        x.forward(0, 0);
+        x.go(9);
+        Check.due("m is back", 0, x.message(0, 1));
+        Check.due("words over p, both ways", 8 + x.count(12), x.pass(0, 5));
     }
 
     private static void passRefuses() {
@@ -389,7 +535,7 @@ public final class CallEdgeTest {
         }
         changesNothing("pass(2, 5)", x -> x.pass(2, 5));
         Heliographs x = Twins.busy();
-        int[][] due = {{0, 1, 7, 0, -1, 2}, {1, 2, 2, 1, 1, 4}, {0, 2, 20, 0, -1, 0}};
+        int[][] due = {{0, 1, 7, 0, -1, 5}, {1, 2, 2, 1, 1, 4}, {0, 2, 20, 0, -1, 0}};
         for (int pass = 0; pass < 3; pass++) {
             for (int what = 0; what <= 5; what++) {
                 Check.due("pass(" + pass + ", " + what + ")", due[pass][what], x.pass(pass, what));
@@ -411,7 +557,7 @@ public final class CallEdgeTest {
         }
         changesNothing("message(2, 8)", x -> x.message(2, 8));
         Heliographs x = Twins.busy();
-        int[][] due = {{2, 1, 1, 2, -1, 0, 0, 2, 1}, {9, 1, 2, 1, 1, 5, 0, -1, 0}, {3, 2, 0, 0, -1, 3, 0, -1, 0}};
+        int[][] due = {{4, 1, 1, 2, -1, 0, 0, 5, 1}, {9, 1, 2, 1, 1, 6, 1, -1, 0}, {3, 2, 0, 0, -1, 3, 0, -1, 0}};
         for (int message = 0; message < 3; message++) {
             for (int what = 0; what <= 8; what++) {
                 Check.due("message(" + message + ", " + what + ")", due[message][what], x.message(message, what));
@@ -632,7 +778,7 @@ public final class CallEdgeTest {
         }
         refused("stop() of one that is there", Check.STATE, x -> x.stop(0));
         refused("stop() of one that waits", Check.STATE, x -> x.stop(2));
-        Check.due("stop() of one that is flashed", 5, Twins.busy().stop(1));
+        Check.due("stop() of one that is flashed", 6, Twins.busy().stop(1));
         Heliographs x = Twins.busy();
         x.stop(1);
         Check.refuses(x, "stop() once more", Check.STATE, () -> x.stop(1));
@@ -707,7 +853,7 @@ public final class CallEdgeTest {
         for (int minutes : new int[] {1, 2, 239, 240}) {
             Heliographs x = Twins.busy();
             x.go(minutes);
-            Check.due("minute behind go(" + minutes + ")", 5 + minutes, x.count(0));
+            Check.due("minute behind go(" + minutes + ")", 6 + minutes, x.count(0));
         }
         // Many minutes at once are as many minutes, one by one.
         Heliographs one = Twins.busy();
@@ -1014,10 +1160,10 @@ public final class CallEdgeTest {
         Check.due("of a new one", d.longValue(), new Heliographs().digest());
         Heliographs x = Twins.busy();
         d = java.math.BigInteger.valueOf(863);
-        for (int number : new int[] {5, 3, 3, 1, 3, 1, 3, 3, 1, 1, 1, 0, 0, 33,
-            0, 120, 2, 2, 0, 2, 2, 0, 60, 1, 0, 0, 2, 2, 0, 120, 4, 4, 1, 2, 2,
-            0, 1, 7, 0, -1, 2, 1, 1, 2, 2, 1, 1, 4, 1, 0, 2, 20, 0, -1, 0, 1,
-            2, 1, 1, 2, -1, 0, 0, 2, 1, 9, 1, 2, 1, 1, 5, 0, -1, 0, 3, 2, 0, 0, -1, 3, 0, -1, 0}) {
+        for (int number : new int[] {6, 3, 3, 1, 3, 1, 3, 2, 1, 1, 1, 1, 1, 33,
+            0, 120, 2, 2, 0, 2, 2, 0, 60, 1, 0, 0, 2, 1, 0, 120, 4, 4, 1, 2, 1,
+            0, 1, 7, 0, -1, 5, 1, 1, 2, 2, 1, 1, 4, 0, 0, 2, 20, 0, -1, 0, 1,
+            4, 1, 1, 2, -1, 0, 0, 5, 1, 9, 1, 2, 1, 1, 6, 1, -1, 0, 3, 2, 0, 0, -1, 3, 0, -1, 0}) {
             d = d.multiply(java.math.BigInteger.valueOf(31)).add(java.math.BigInteger.valueOf(number));
         }
         Check.due("of one that is busy", d.longValue(), x.digest());

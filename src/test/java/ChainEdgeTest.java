@@ -40,6 +40,7 @@ public final class ChainEdgeTest {
     private static void messagesThatWait() {
         Check.sentence("(those as well that began to do so in step 1)", ChainEdgeTest::beganToWait);
         Check.sentence("whose due is not greater than the minute", ChainEdgeTest::dueAndMinute);
+        Check.sentence("Messages that wait", ChainEdgeTest::onlyThoseThatWait);
         Check.sentence("Messages that wait .., by numbers", ChainEdgeTest::waitingByNumbers);
         Check.sentence("the test of no order of hold for it holds as it comes to its turn", ChainEdgeTest::asItComesToItsTurn);
         Check.sentence("the test of no order of hold for it holds", ChainEdgeTest::noOrderOfHold);
@@ -415,6 +416,22 @@ public final class ChainEdgeTest {
         }
     }
 
+    private static void onlyThoseThatWait() {
+        // p is cloudy in 0: m goes over q, and stays with it as p opens in 1, which is shorter, and a has a mirror free.
+        Heliographs x = Check.taught(peak("a", 2) + peak("b", 1) + "pass p between a and b far 1;pass q between a and b far 2;"
+                + "cloud over p every 60 for 1 from 0;message m words 3 at a to b due 0;");
+        x.go(2);
+        Check.due("first(a, b) in 2", 0, x.first(0, 1));
+        Check.due("over q", 1, x.message(0, 4));
+        Check.due("left", 2, x.message(0, 5));
+        x.go(2);
+        Check.due("m came", 3, x.message(0, 7));
+        // And what is there stays there, until it is sent on.
+        x.go(9);
+        state(x, 0, THERE);
+        Check.due("passes", 1, x.message(0, 8));
+    }
+
     private static void waitingByNumbers() {
         // One mirror, one pass: the smallest number goes first, and not the one that waits longest or is due first.
         Heliographs x = Check.taught(AB + "message m words 1 at a to b due 1;message n words 1 at a to b due 0;"
@@ -714,6 +731,11 @@ public final class ChainEdgeTest {
                 holds(one + "=" + other, one == other);
                 holds(one + "<=" + other, one <= other);
                 holds(one + ">=" + other, one >= other);
+                holds("not " + one + "<" + other, one >= other);
+                holds("not " + one + ">" + other, one <= other);
+                holds("not " + one + "=" + other, one != other);
+                holds("not " + one + "<=" + other, one > other);
+                holds("not " + one + ">=" + other, one < other);
                 holds("min(" + one + "," + other + ")=" + Math.min(one, other), true);
                 holds("max(" + one + "," + other + ")=" + Math.max(one, other), true);
                 holds("min(" + one + "," + other + ")=" + (Math.min(one, other) + 1), false);

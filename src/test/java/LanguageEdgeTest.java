@@ -247,12 +247,14 @@ public final class LanguageEdgeTest {
                 Check.error(text, 1, 7);
             }
         }
-        // Each of them is a part of the name: xa is not x.
-        for (int sign = 'a'; sign <= 'z'; sign++) {
-            Check.taught("peak x sun from 0 to 0 mirrors 0;peak x" + (char) sign + " sun from 0 to 0 mirrors 0;");
-        }
-        for (int sign = '0'; sign <= '9'; sign++) {
-            Check.taught("peak x sun from 0 to 0 mirrors 0;peak x" + (char) sign + " sun from 0 to 0 mirrors 0;");
+        // Each of them tells names apart: xa is not x, xb not xa, x0 not xz.
+        String signs = "abcdefghijklmnopqrstuvwxyz0123456789";
+        for (char one : signs.toCharArray()) {
+            Check.taught("peak x sun from 0 to 0 mirrors 0;peak x" + one + " sun from 0 to 0 mirrors 0;");
+            for (char other : signs.toCharArray()) {
+                String two = "peak x" + one + " sun from 0 to 0 mirrors 0;peak x" + other + " sun from 0 to 0 mirrors 0;";
+                Check.due("x" + one + " and x" + other, one == other ? 2 : 0, Check.teach(new Heliographs(), two));
+            }
         }
     }
 

@@ -3,19 +3,22 @@ final class Twins {
     private static final String BUSY = "peak a sun from 0 to 120 mirrors 2;peak b sun from 0 to 60 mirrors 1;"
             + "peak c sun from 0 to 120 mirrors 4;pass ab between a and b far 7;pass bc between b and c far 2;"
             + "pass ac between a and c far 20;cloud over bc every 10 for 3 from 4;"
-            + "message m words 2 at a to b due 0;message n words 9 at b to c due 0;message o words 3 at c to a due 9;"
+            + "message m words 4 at a to b due 0;message n words 9 at b to c due 0;message o words 3 at c to a due 9;"
             + "hold o when queue c > 1 or minute < 5;";
 
     private Twins() {
     }
 
     /**
-     * In the minute 5: m (0) is there, n (1) is flashed from b, o (2) waits at c, a has 2 mirrors, b one, and none
-     * that is free, c 4. The latest list had an error, and there is another one, of 33 bytes, on the tape.
+     * In the minute 6: m (0) is there and lost a word, n (1) is flashed from b and broke off once, o (2) waits at c;
+     * a has 2 mirrors, b one, and none that is free, c 4. The latest list had an error, and there is another one, of
+     * 33 bytes, on the tape.
      */
     static Heliographs busy() {
         Heliographs x = Check.taught(BUSY);
-        x.go(5);
+        x.go(2);
+        x.stop(1);
+        x.go(4);
         Check.due("m is there", 2, x.message(0, 3));
         Check.due("n is flashed", 1, x.message(1, 3));
         Check.due("o waits", 0, x.message(2, 3));
