@@ -1,3 +1,7 @@
+import java.util.ArrayList;
+import java.util.Arrays;
+import java.util.List;
+
 /** The edges that the document names in its first part: tape, tokens, grammar, depth and errors. */
 public final class LanguageEdgeTest {
     private static final String TWO = "peak a sun from 0 to 120 mirrors 1;peak b sun from 0 to 120 mirrors 1;";
@@ -28,6 +32,7 @@ public final class LanguageEdgeTest {
         Check.sentence("A word: a letter a to z", LanguageEdgeTest::firstByteOfAWord);
         Check.sentence("followed by letters a to z and digits", LanguageEdgeTest::nextByteOfAWord);
         Check.sentence("A word: .. at most 10 bytes", LanguageEdgeTest::longestWord);
+        Check.sentence("A word: .. letters a to z and digits, at most 10 bytes", LanguageEdgeTest::wordsOfTwoBytes);
         Check.sentence("A number: 1 to 6 digits", LanguageEdgeTest::longestNumber);
         Check.sentence("All other words are names", LanguageEdgeTest::keywordsAreNoNames);
     }
@@ -275,6 +280,36 @@ public final class LanguageEdgeTest {
         Check.errorAtMark(2, "peak abcdefghij sun from 0 to 0 mirrors 0;peak #abcdefghij sun from 0 to 0 mirrors 0;");
         Check.taught("peak abcdefghij sun from 0 to 0 mirrors 0;peak abcdefghik sun from 0 to 0 mirrors 0;"
                 + "peak bbcdefghij sun from 0 to 0 mirrors 0;peak abcdefghi sun from 0 to 0 mirrors 0;");
+    }
+
+    /** No two of all names of one byte and of two bytes are the same name. */
+    private static void wordsOfTwoBytes() {
+        String[] lines = linesOfShortNames();
+        Check.due("names of one byte or two", 26 + 26 * 36 - 3, lines.length);
+        for (int i = 0; i < lines.length; i += 4) {
+            for (int j = i; j < lines.length; j += 4) {
+                StringBuilder list = new StringBuilder();
+                for (int k = 0; k < 4; k++) {
+                    list.append(i + k < lines.length ? lines[i + k] : "");
+                    list.append(j > i && j + k < lines.length ? lines[j + k] : "");
+                }
+                Check.due(list.toString(), 0, Check.teach(new Heliographs(), list.toString()));
+            }
+        }
+    }
+
+    private static String[] linesOfShortNames() {
+        List<String> lines = new ArrayList<>();
+        for (char one = 'a'; one <= 'z'; one++) {
+            lines.add("peak " + one + " sun from 0 to 0 mirrors 0;");
+            for (char other : "abcdefghijklmnopqrstuvwxyz0123456789".toCharArray()) {
+                String name = "" + one + other;
+                if (!Arrays.asList(KEYWORDS).contains(name)) {
+                    lines.add("peak " + name + " sun from 0 to 0 mirrors 0;");
+                }
+            }
+        }
+        return lines.toArray(new String[0]);
     }
 
     private static void longestNumber() {
